@@ -395,7 +395,7 @@ public final class BondOffice {
 
     private void awardPrize(Draw made, int prize, int latestDay) {
         int bond = ledger.bondAt(made.placeOf(made.winCount), latestDay);
-        Win one = new Win(draws.size(), today, bond, ledger.holderOn(bond, today), prize);
+        Win one = new Win(draws.size(), today, bond, ledger.holderNow(bond), prize);
         wins.add(one);
         made.winCount++;
         made.left -= prize;
@@ -523,6 +523,14 @@ public final class BondOffice {
             return NONE;
         }
 
+        int holderNow(int bond) {
+            int place = placeAmongGoing(bond);
+            if (place >= going.size() || !going.get(place).contains(bond)) {
+                return NONE;
+            }
+            return going.get(place).holder;
+        }
+
         int bondsOf(int holder) {
             int bonds = 0;
             for (int i = 0; i < going.size(); i++) {
@@ -603,22 +611,17 @@ public final class BondOffice {
             Line ahead = one.first < a ? begin(one.first, a - 1, one.holder, one.since) : null;
             Line behind = one.last > b ? begin(b + 1, one.last, one.holder, one.since) : null;
             Line between = to == NONE ? null : begin(Math.max(one.first, a), Math.min(one.last, b), to, day);
-            int place = placeAmongGoing(one);
-            if (place >= 0 && place < going.size()) {
-                going.remove(place);
-                insertAmongGoing(place, behind);
-                insertAmongGoing(place, between);
-                insertAmongGoing(place, ahead);
-            }
+            replaceAmongGoing(placeAmongGoing(one.first), ahead, between, behind);
         }
 
-        private int placeAmongGoing(Line one) {
+        /** Of the lines that go on, the last one that does not begin behind a bond; 0 if all do. */
+        private int placeAmongGoing(int bond) {
             int low = 0;
             int high = going.size() - 1;
             // Each round halves the span, so that 32 are more than any size needs.
             for (int round = 0; round < 32 && low < high; round++) {
                 int middle = (low + high + 1) >>> 1;
-                if (going.get(middle).first <= one.first) {
+                if (going.get(middle).first <= bond) {
                     low = middle;
                 } else {
                     high = middle - 1;
@@ -627,9 +630,20 @@ public final class BondOffice {
             return low;
         }
 
-        private void insertAmongGoing(int place, Line one) {
-            if (one != null && place >= 0 && place <= going.size()) {
-                going.add(place, one);
+        private void replaceAmongGoing(int place, Line ahead, Line between, Line behind) {
+            if (place < 0 || place >= going.size()) {
+                return;
+            }
+            if (behind != null) {
+                going.add(place + 1, behind);
+            }
+            if (between != null) {
+                going.set(place, between);
+            } else {
+                going.remove(place);
+            }
+            if (ahead != null) {
+                going.add(place, ahead);
             }
         }
     }
