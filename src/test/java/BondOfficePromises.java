@@ -6,18 +6,7 @@ import java.util.Arrays;
 import java.util.TreeSet;
 
 /** At least one test for each promise of the document; the answers were worked out by hand from its words. */
-public final class BondOfficePromises {
-    private static final int NONE = BondOffice.NONE;
-    private static final Class<?> INDEX = IndexOutOfBoundsException.class;
-    private static final Class<?> ARGUMENT = IllegalArgumentException.class;
-    private static final Class<?> STATE = IllegalStateException.class;
-
-    private static int wrong = 0;
-
-    private interface Call {
-        long answer();
-    }
-
+public final class BondOfficePromises extends OfficeTest {
     public static void main(String[] args) {
         theFace();
         promise1NewObject();
@@ -57,105 +46,7 @@ public final class BondOfficePromises {
         promise20Paid();
         promise21Carried();
         promise22Count();
-        System.out.println(wrong == 0 ? "all promises hold" : wrong + " answers are not as due");
-        if (wrong != 0) {
-            System.exit(1);
-        }
-    }
-
-    private static void due(String what, long got, long want) {
-        if (got != want) {
-            wrong++;
-            System.out.println(what + " answered " + got + ", due is " + want);
-        }
-    }
-
-    private static void dueThrow(String what, Class<?> kind, Call call) {
-        try {
-            long got = call.answer();
-            wrong++;
-            System.out.println(what + " answered " + got + ", due is " + kind.getSimpleName());
-        } catch (RuntimeException e) {
-            // The class must throw by itself, not let a list or the machine do it.
-            boolean own = e.getStackTrace()[0].getClassName().equals("BondOffice");
-            if (e.getClass() != kind || !own) {
-                wrong++;
-                System.out.println(what + " threw " + e + (own ? "" : " from outside the class") + ", due is "
-                        + kind.getSimpleName());
-            }
-        }
-    }
-
-    private static BondOffice withHolders(int n) {
-        BondOffice x = new BondOffice();
-        for (int i = 0; i < n; i++) {
-            x.holder();
-        }
-        return x;
-    }
-
-    private static int word(byte[] bytes, int at) {
-        int number = 0;
-        for (int i = 0; i < 4; i++) {
-            number = number << 8 | (at + i < bytes.length ? bytes[at + i] & 255 : 0);
-        }
-        return number;
-    }
-
-    private static void feedText(BondOffice x, String text) {
-        byte[] bytes = text.getBytes(java.nio.charset.StandardCharsets.ISO_8859_1);
-        for (int at = 0; at < bytes.length; at += 20) {
-            x.feed(word(bytes, at), word(bytes, at + 4), word(bytes, at + 8), word(bytes, at + 12),
-                    word(bytes, at + 16));
-        }
-    }
-
-    private static int tell(BondOffice x, String text, int day) {
-        feedText(x, text);
-        return x.rule(text.length(), day);
-    }
-
-    private static void noises(BondOffice x, int... numbers) {
-        for (int number : numbers) {
-            x.noise(number);
-        }
-    }
-
-    private static void lineDue(BondOffice x, int k, int first, int last, int holder, int since, int ended) {
-        due("line " + k + " first", x.line(k, 0), first);
-        due("line " + k + " last", x.line(k, 1), last);
-        due("line " + k + " holder", x.line(k, 2), holder);
-        due("line " + k + " since", x.line(k, 3), since);
-        due("line " + k + " ended", x.line(k, 4), ended);
-    }
-
-    private static void winDue(BondOffice x, int win, int draw, int bond, int holder, int prize, int state) {
-        due("win " + win + " draw", x.win(win, 0), draw);
-        due("win " + win + " bond", x.win(win, 1), bond);
-        due("win " + win + " holder", x.win(win, 2), holder);
-        due("win " + win + " prize", x.win(win, 3), prize);
-        due("win " + win + " state", x.win(win, 4), state);
-    }
-
-    private static void drawDue(BondOffice x, int draw, long... facts) {
-        for (int what = 0; what < facts.length; what++) {
-            due("drawn(" + draw + ", " + what + ")", x.drawn(draw, what), facts[what]);
-        }
-    }
-
-    private static void faultDue(String text, int kind, int place) {
-        BondOffice x = new BondOffice();
-        due("rule '" + text + "'", tell(x, text, 0), kind - 10);
-        due("fault() of '" + text + "'", x.fault(), place);
-        due("rules with '" + text + "'", x.count(4), 0);
-        due("tape behind '" + text + "'", x.count(10), 0);
-    }
-
-    private static void textDue(String text) {
-        BondOffice x = new BondOffice();
-        due("rule '" + text + "'", tell(x, text, 0), 0);
-        due("fault() of '" + text + "'", x.fault(), NONE);
-        due("rules with '" + text + "'", x.count(4), 1);
+        end();
     }
 
     private static void theFace() {
@@ -258,28 +149,6 @@ public final class BondOfficePromises {
         BondOffice z = filledTo(1_499);
         due("buy of the 1,500th line", z.buy(0, 1), 100);
         due("lines", z.count(3), 1_500);
-    }
-
-    /**
-     * An office with 100 bonds in lines of one, given to and fro between holders 0 and 1 until there are so many:
-     * of 1,400 all are holder 1's, of 1,499 all but bond 99 are holder 0's, of 1,500 all are.
-     */
-    private static BondOffice filledTo(int lines) {
-        BondOffice x = withHolders(3);
-        for (int i = 0; i < 100; i++) {
-            x.buy(0, 1);
-        }
-        int from = 0;
-        while (x.count(3) + 100 <= lines) {
-            x.give(from, 0, 99, 1 - from);
-            from = 1 - from;
-        }
-        int missing = lines - x.count(3);
-        if (missing > 0) {
-            x.give(from, 0, missing - 1, 1 - from);
-            due("lines are filled", x.count(3), lines);
-        }
-        return x;
     }
 
     private static void promise4Give() {
