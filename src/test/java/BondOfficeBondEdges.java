@@ -82,6 +82,7 @@ public final class BondOfficeBondEdges extends OfficeTest {
         edge("6: -2 likewise", BondOfficeBondEdges::diedBeyondAllLines);
         edge("6: exceptions ahead of -2", BondOfficeBondEdges::diedRefusalsInOrder);
         edge("DIED: all its LINES that go on end", BondOfficeBondEdges::diedLeavesEndedLines);
+        edge("DIED: each with one of the HEIR behind it (in order)", BondOfficeBondEdges::diedTakesLinesInOrder);
         edge("DIED: WINS that are not claimed, nor lapsed", BondOfficeBondEdges::diedLeavesClaimedAndLapsed);
         edge("DIED: it can't have anything any more", BondOfficeBondEdges::deadHaveNothing);
         edge("DIED: the HEIR too", BondOfficeBondEdges::heirDiesToo);
@@ -726,6 +727,24 @@ public final class BondOfficeBondEdges extends OfficeTest {
         lineDue(x, 3, 0, 0, 1, 2, NONE);
         lineDue(x, 4, 1, 2, 2, 2, NONE);
         due("lines", x.count(3), 5);
+    }
+
+    private static void diedTakesLinesInOrder() {
+        BondOffice x = withHolders(3);
+        x.buy(1, 2);
+        x.buy(0, 2);
+        x.buy(1, 2);
+        x.buy(0, 2);
+        x.wait(1);
+        due("bonds 4 and 5 come behind 6 and 7", x.give(1, 4, 5, 0), 1);
+        due("bonds 0 and 1 come behind these", x.give(1, 0, 1, 0), 1);
+        x.wait(1);
+        due("died", x.died(0, 2), 4);
+        lineDue(x, 6, 2, 3, 2, 2, NONE);
+        lineDue(x, 7, 6, 7, 2, 2, NONE);
+        lineDue(x, 8, 4, 5, 2, 2, NONE);
+        lineDue(x, 9, 0, 1, 2, 2, NONE);
+        due("lines", x.count(3), 10);
     }
 
     private static void diedLeavesClaimedAndLapsed() {

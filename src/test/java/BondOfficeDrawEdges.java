@@ -631,15 +631,31 @@ public final class BondOfficeDrawEdges extends OfficeTest {
     private static void fundAboveLongs() {
         BondOffice x = withLines(100, 10_000_000);
         tell(x, "fund1000000/1;".repeat(10), 0);
-        for (int i = 0; i < 39; i++) {
+        for (int i = 0; i < 9; i++) {
             drawInOrder(x);
         }
-        due("carried", x.carried(), 390_000_000_000_000_000L);
+        tell(x, "share 1000000000 100;", 0);
+        drawInOrder(x);
+        due("fund, times 100 not above", x.drawn(9, 5), 90_000_000_000_000_000L);
+        due("wins", x.drawn(9, 6), 50);
         tell(x, "fund1000000/1;".repeat(9) + "share 1000000000 100;", 0);
         drawInOrder(x);
-        due("fund", x.drawn(39, 5), 399_000_000_000_000_000L);
-        due("wins", x.drawn(39, 6), 50);
-        due("carried", x.drawn(39, 8), 398_999_950_000_000_000L);
+        // Times 100 it would wrap around to below 0.
+        due("fund, times 100 above", x.drawn(10, 5), 98_999_950_000_000_000L);
+        due("wins", x.drawn(10, 6), 50);
+        due("carried", x.drawn(10, 8), 98_999_900_000_000_000L);
+
+        BondOffice most = withLines(100, 10_000_000);
+        tell(most, "fund1000000/1;".repeat(10), 0);
+        for (int i = 0; i < 39; i++) {
+            drawInOrder(most);
+        }
+        due("carried", most.carried(), 390_000_000_000_000_000L);
+        tell(most, "fund1000000/1;".repeat(9) + "share 1000000000 24;", 0);
+        drawInOrder(most);
+        due("the greatest fund that is shared", most.drawn(39, 5), 399_000_000_000_000_000L);
+        due("wins", most.drawn(39, 6), 50);
+        due("carried", most.drawn(39, 8), 398_999_950_000_000_000L);
     }
 
     private static void lapseAfter500() {
