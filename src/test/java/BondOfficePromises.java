@@ -9,6 +9,7 @@ import java.util.TreeSet;
 public final class BondOfficePromises extends OfficeTest {
     public static void main(String[] args) {
         theFace();
+        theClassesInside();
         promise1NewObject();
         promise2Holder();
         promise3Buy();
@@ -54,16 +55,19 @@ public final class BondOfficePromises extends OfficeTest {
         TreeSet<String> methods = new TreeSet<>();
         for (Method m : face.getDeclaredMethods()) {
             if (!Modifier.isPrivate(m.getModifiers())) {
-                methods.add(m.getReturnType() + " " + m.getName() + Arrays.toString(m.getParameterTypes()));
+                methods.add(m.getReturnType() + " " + m.getName() + Arrays.toString(m.getParameterTypes())
+                        + thrownBy(m));
                 due(m.getName() + " is public and not static", m.getModifiers(), Modifier.PUBLIC);
             }
         }
-        TreeSet<String> told = new TreeSet<>(Arrays.asList("int holder[]", "int buy[int, int]",
-                "int give[int, int, int, int]", "int cash[int, int, int]", "int died[int, int]",
-                "int held[int, int]", "int has[int]", "int line[int, int]", "int wait[int]",
-                "int feed[int, int, int, int, int]", "int rule[int, int]", "int fault[]", "int force[int]",
-                "int noise[int]", "int draw[]", "long drawn[int, int]", "int win[int, int]", "int claim[int]",
-                "long paid[int]", "long carried[]", "int count[int]"));
+        TreeSet<String> told = new TreeSet<>(Arrays.asList("int holder[] State",
+                "int buy[int, int] Index Argument State", "int give[int, int, int, int] Index Argument State",
+                "int cash[int, int, int] Index State", "int died[int, int] Index Argument State",
+                "int held[int, int]", "int has[int] Index", "int line[int, int] Index Argument",
+                "int wait[int] Argument", "int feed[int, int, int, int, int]", "int rule[int, int] Argument State",
+                "int fault[]", "int force[int]", "int noise[int]", "int draw[]", "long drawn[int, int] Index Argument",
+                "int win[int, int] Index Argument", "int claim[int] Index", "long paid[int] Index", "long carried[]",
+                "int count[int]"));
         due("the methods are the told ones", methods.equals(told) ? 1 : 0, 1);
         for (Field f : face.getDeclaredFields()) {
             boolean isNone = f.getName().equals("NONE");
@@ -74,6 +78,39 @@ public final class BondOfficePromises extends OfficeTest {
         due("public constructors", made.length, 1);
         due("the class is public and final", face.getModifiers(), Modifier.PUBLIC | Modifier.FINAL);
         due("NONE", BondOffice.NONE, -1);
+    }
+
+    private static String thrownBy(Method method) {
+        StringBuilder text = new StringBuilder();
+        for (Class<?> kind : method.getExceptionTypes()) {
+            text.append(kind == INDEX ? " Index" : kind == ARGUMENT ? " Argument" : kind == STATE ? " State" : " ?");
+        }
+        return text.toString();
+    }
+
+    /** LANGUAGE.md, rule 1, as far as the compiled class shows it. */
+    private static void theClassesInside() {
+        TreeSet<String> open = new TreeSet<>();
+        for (Method m : BondOffice.class.getMethods()) {
+            if (m.getDeclaringClass() == BondOffice.class) {
+                open.add(m.getName());
+            }
+        }
+        dueOtherNames(BondOffice.class, open);
+        for (Class<?> inside : BondOffice.class.getDeclaredClasses()) {
+            int seen = inside.getModifiers();
+            due(inside + " is static", Modifier.isStatic(seen) ? 1 : 0, 1);
+            due(inside + " is seen from outside", Modifier.isPublic(seen) || Modifier.isProtected(seen) ? 1 : 0, 0);
+            dueOtherNames(inside, open);
+        }
+    }
+
+    private static void dueOtherNames(Class<?> one, TreeSet<String> open) {
+        for (Method m : one.getDeclaredMethods()) {
+            if (Modifier.isPrivate(m.getModifiers()) && open.contains(m.getName())) {
+                fail("a private method of " + one + " bears the name of a public one: " + m.getName());
+            }
+        }
     }
 
     private static void promise1NewObject() {
